@@ -31,7 +31,7 @@ final class Check {
         }
     }
 
-    private static boolean isThrownByHand(RuntimeException e) {
+    static boolean isThrownByHand(RuntimeException e) {
         String text = e.getMessage();
         return text != null && !text.startsWith("Index ") && !text.startsWith("Cannot ") && !text.startsWith("arraycopy");
     }
