@@ -6,6 +6,7 @@ final class Promise04SampleTest {
         oneBand();
         roundingAndEnds();
         threeBands();
+        allColours();
         CHECK.end();
     }
 
@@ -89,5 +90,33 @@ final class Promise04SampleTest {
         }
         CHECK.same("row 7 of a band with all rows", x.sample(0, 7, 2), 128 + 20);
         CHECK.same("row 8 of a band with all rows", x.sample(14, 8, 2), 128 + 60);
+    }
+
+    /** With numbers 8 a first coefficient v is a sample 128 + v; 64 colours a picture. */
+    private static void allColours() {
+        DctFilter x = new DctFilter();
+        for (int kind = 0; kind < 3; kind++) {
+            x.table(kind, 0, 8);
+        }
+        for (int first = 0; first < 65536; first += 64) {
+            Stream stream = Stream.begin().frameOfThree(192, 64, 64, 17, 17, 17).scanOfThree(0, 63, 0, 0);
+            int a = first % 255;
+            for (int i = 0; i < 64; i++) {
+                int colour = first + i;
+                stream.flat(i == 0 ? a - 128 : 0).flat(i == 0 ? colour / 256 - 128 : 0).flat(i == 0 ? colour % 256 - 128 : 1);
+            }
+            stream.end().giveTo(x);
+            CHECK.same("read", x.read(), 64);
+            for (int i = 0; i < 64; i++) {
+                int b = (first + i) / 256 - 128;
+                int c = (first + i) % 256 - 128;
+                int px = i % 8 * 8 + 3;
+                int py = i / 8 * 8 + 5;
+                CHECK.same("band 0", x.sample(px, py, 0), a);
+                CHECK.same("red", x.sample(px, py, 3), limited(a + Math.floor((91881 * c + 32768) / 65536.0)));
+                CHECK.same("green", x.sample(px, py, 4), limited(a - Math.floor((22554 * b + 46802 * c + 32768) / 65536.0)));
+                CHECK.same("blue", x.sample(px, py, 5), limited(a + Math.floor((116130 * b + 32768) / 65536.0)));
+            }
+        }
     }
 }

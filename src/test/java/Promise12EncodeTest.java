@@ -12,6 +12,7 @@ final class Promise12EncodeTest {
         extremes();
         scansInOneGo();
         longWriting();
+        halves();
         CHECK.end();
     }
 
@@ -154,5 +155,29 @@ final class Promise12EncodeTest {
         });
         CHECK.same("its end is not there", x.read() < 0 ? 1 : 0, 1);
         CHECK.same("all are told", x.told(-1, 6), count);
+    }
+
+    /** 4017 * 486 + 3406 * 24 + 2276 * 13 + 799 * 42 is 2^21: with 2896 and a number 181 a half, exactly. */
+    private static void halves() {
+        int[] sums = {486, 24, 13, 42, 0, 0, 0, 0};
+        for (int sign : new int[] {1, -1}) {
+            DctFilter x = new DctFilter();
+            x.table(0, 1, 181);
+            for (int column = 0; column < 8; column++) {
+                for (int row = 0; row < 8; row++) {
+                    int part = sums[column] / 8 + (row < sums[column] % 8 ? 1 : 0);
+                    x.point(column, row, 128 + sign * part);
+                }
+            }
+            x.encode(50);
+            x.take();
+            CHECK.same("read", x.read(), 8);
+            CHECK.same("a half goes away from 0", x.coefficient(0, 1), sign);
+            x.table(0, 1, 182);
+            x.encode(50);
+            x.take();
+            CHECK.same("read", x.read(), 8);
+            CHECK.same("less than a half is 0", x.coefficient(0, 1), 0);
+        }
     }
 }
