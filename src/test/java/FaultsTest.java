@@ -75,65 +75,42 @@ final class FaultsTest {
         }
     }
 
-    private static Stream table(Stream stream, int number, int zeroAt) {
-        stream.put(number);
-        for (int i = 0; i < 64; i++) {
-            stream.put(i == zeroAt ? 0 : 255 - i);
-        }
-        return stream;
-    }
-
     private static void tables() {
-        CHECK.same("a table", table(Stream.begin().put(255, 219, 0, 67), 3, -1).end().answer(), 0);
-        CHECK.same("two tables", table(table(Stream.begin().put(255, 219, 0, 132), 0, -1), 0, -1).end().answer(), 0);
-        fault("number 4", table(Stream.begin().put(255, 219, 0, 67), 4, -1).end(), 6);
-        fault("number 16", table(Stream.begin().put(255, 219, 0, 67), 16, -1).end(), 6);
-        fault("number 4 of the second", table(table(Stream.begin().put(255, 219, 0, 132), 0, -1), 4, -1).end(), 71);
-        fault("first 0", table(Stream.begin().put(255, 219, 0, 67), 0, 0).end(), 6);
-        fault("last 0", table(Stream.begin().put(255, 219, 0, 67), 0, 63).end(), 6);
-        fault("0 in the second", table(table(Stream.begin().put(255, 219, 0, 132), 0, -1), 1, 9).end(), 71);
-        fault("not all there", table(Stream.begin().put(255, 219, 0, 66), 0, -1).end(), 6);
-        fault("a byte too much", table(Stream.begin().put(255, 219, 0, 68), 0, -1).put(0).end(), 71);
+        CHECK.same("a table", Stream.begin().put(255, 219, 0, 67).table(3, -1).end().answer(), 0);
+        CHECK.same("two tables", Stream.begin().put(255, 219, 0, 132).table(0, -1).table(0, -1).end().answer(), 0);
+        fault("number 4", Stream.begin().put(255, 219, 0, 67).table(4, -1).end(), 6);
+        fault("number 16", Stream.begin().put(255, 219, 0, 67).table(16, -1).end(), 6);
+        fault("number 4 of the second", Stream.begin().put(255, 219, 0, 132).table(0, -1).table(4, -1).end(), 71);
+        fault("first 0", Stream.begin().put(255, 219, 0, 67).table(0, 0).end(), 6);
+        fault("last 0", Stream.begin().put(255, 219, 0, 67).table(0, 63).end(), 6);
+        fault("0 in the second", Stream.begin().put(255, 219, 0, 132).table(0, -1).table(1, 9).end(), 71);
+        fault("not all there", Stream.begin().put(255, 219, 0, 66).table(0, -1).end(), 6);
+        fault("a byte too much", Stream.begin().put(255, 219, 0, 68).table(0, -1).put(0).end(), 71);
         fault("a number alone", Stream.begin().put(255, 219, 0, 3, 0).end(), 6);
     }
 
-    /** Codes of which so many have each length, from length 1 on; their symbols are 0, 1, ... */
-    private static Stream codes(Stream stream, int kind, int... counts) {
-        stream.put(kind);
-        int sum = 0;
-        for (int i = 0; i < 16; i++) {
-            int count = i < counts.length ? counts[i] : 0;
-            stream.put(count);
-            sum += count;
-        }
-        for (int i = 0; i < sum; i++) {
-            stream.put(i);
-        }
-        return stream;
-    }
-
     private static Stream segment(int length) {
-        return Stream.begin().put(255, 196, length >> 8, length & 255);
+        return Stream.begin().segment(196, length);
     }
 
     private static void codes() {
-        CHECK.same("no codes at all", codes(segment(19), 0).end().answer(), 0);
-        CHECK.same("both of one bit", codes(segment(21), 0x13, 2).end().answer(), 0);
-        CHECK.same("255 of 8 bits, one of 9", codes(segment(19 + 256), 3, 0, 0, 0, 0, 0, 0, 0, 255, 1).end().answer(), 0);
-        fault("257 of 9 and more", codes(segment(19 + 257), 3, 0, 0, 0, 0, 0, 0, 0, 0, 255, 2).end(), 6);
+        CHECK.same("no codes at all", segment(19).codes(0).end().answer(), 0);
+        CHECK.same("both of one bit", segment(21).codes(0x13, 2).end().answer(), 0);
+        CHECK.same("255 of 8 bits, one of 9", segment(19 + 256).codes(3, 0, 0, 0, 0, 0, 0, 0, 255, 1).end().answer(), 0);
+        fault("257 of 9 and more", segment(19 + 257).codes(3, 0, 0, 0, 0, 0, 0, 0, 0, 255, 2).end(), 6);
         for (int kind : new int[] {4, 15, 0x14, 0x20, 0x23, 255}) {
-            fault("codes " + kind, codes(segment(20), kind, 1).end(), 6);
+            fault("codes " + kind, segment(20).codes(kind, 1).end(), 6);
         }
-        fault("three of one bit", codes(segment(22), 0, 3).end(), 6);
-        fault("two of one bit, one of two", codes(segment(22), 0, 2, 1).end(), 6);
-        fault("two of one bit, one of 16", codes(segment(22), 0, 2, 0, 0, 0, 0, 0, 0, 0, 0, 0, 0, 0, 0, 0, 0, 1).end(), 6);
-        fault("five of two bits", codes(segment(24), 0, 0, 5).end(), 6);
-        fault("not all symbols there", codes(segment(20), 0, 2).end(), 6);
-        fault("not all counts there", codes(segment(18), 0).end(), 6);
+        fault("three of one bit", segment(22).codes(0, 3).end(), 6);
+        fault("two of one bit, one of two", segment(22).codes(0, 2, 1).end(), 6);
+        fault("two of one bit, one of 16", segment(22).codes(0, 2, 0, 0, 0, 0, 0, 0, 0, 0, 0, 0, 0, 0, 0, 0, 1).end(), 6);
+        fault("five of two bits", segment(24).codes(0, 0, 5).end(), 6);
+        fault("not all symbols there", segment(20).codes(0, 2).end(), 6);
+        fault("not all counts there", segment(18).codes(0).end(), 6);
         fault("a number alone", segment(3).put(0).end(), 6);
-        CHECK.same("two", codes(codes(segment(2 + 18 + 19), 0, 1), 16, 2).end().answer(), 0);
-        fault("the second is wrong", codes(codes(segment(2 + 18 + 20), 0, 1), 16, 3).end(), 24);
-        fault("the second is not there", codes(segment(21), 0, 1).put(0).end(), 24);
+        CHECK.same("two", segment(2 + 18 + 19).codes(0, 1).codes(16, 2).end().answer(), 0);
+        fault("the second is wrong", segment(2 + 18 + 20).codes(0, 1).codes(16, 3).end(), 24);
+        fault("the second is not there", segment(21).codes(0, 1).put(0).end(), 24);
     }
 
     private static void frames() {

@@ -9,7 +9,11 @@ final class Stream {
         return new Stream().put(255, 216);
     }
 
+    /** Whole bytes; a test that puts them where bits of a byte are still held is itself wrong. */
     Stream put(int... values) {
+        if (held != 0) {
+            throw new IllegalStateException("fill() or restart() comes first");
+        }
         for (int value : values) {
             bytes[size++] = value & 255;
         }
@@ -29,8 +33,15 @@ final class Stream {
         return this;
     }
 
+    Stream prefix(int count) {
+        return new Stream().put(java.util.Arrays.copyOf(bytes, count));
+    }
+
     Stream copy() {
-        return new Stream().put(java.util.Arrays.copyOf(bytes, size));
+        Stream made = prefix(size);
+        made.current = current;
+        made.held = held;
+        return made;
     }
 
     /** A frame of one band named 1, table 0. */
@@ -41,6 +52,34 @@ final class Stream {
     /** A frame of three bands named 1, 2, 3 with tables 0, 1, 2. */
     Stream frameOfThree(int marker, int width, int height, int one, int two, int three) {
         return put(255, marker, 0, 17, 8, 0, height, 0, width, 3, 1, one, 0, 2, two, 1, 3, three, 2);
+    }
+
+    /** A table of a segment 219: its number, and 64 numbers of which one may be 0. */
+    Stream table(int number, int zeroAt) {
+        put(number);
+        for (int i = 0; i < 64; i++) {
+            put(i == zeroAt ? 0 : 255 - i);
+        }
+        return this;
+    }
+
+    /** Codes of a segment 196, so many of each length from 1 on; their symbols are 0, 1, ... */
+    Stream codes(int kind, int... counts) {
+        put(kind);
+        int sum = 0;
+        for (int i = 0; i < 16; i++) {
+            int count = i < counts.length ? counts[i] : 0;
+            put(count);
+            sum += count;
+        }
+        for (int i = 0; i < sum; i++) {
+            put(i);
+        }
+        return this;
+    }
+
+    Stream segment(int marker, int length) {
+        return put(255, marker, length >> 8, length & 255);
     }
 
     Stream interval(int n) {
@@ -60,12 +99,12 @@ final class Stream {
         for (int i = count - 1; i >= 0; i--) {
             current = 2 * current + (value >> i & 1);
             if (++held == 8) {
+                held = 0;
                 put(current);
                 if (current == 255) {
                     put(0);
                 }
                 current = 0;
-                held = 0;
             }
         }
         return this;
