@@ -387,12 +387,9 @@ public final class DctFilter {
             this.source = source;
         }
 
+        /** What is left of a byte is passed. */
         void beginAt(int newPlace) {
             place = Math.max(0, newPlace);
-            left = 0;
-        }
-
-        void passByte() {
             left = 0;
         }
 
@@ -828,7 +825,6 @@ public final class DctFilter {
             if (interval < 1 || unit == markedUnit || unit % interval != 0) {
                 return true;
             }
-            bits.passByte();
             int due = 256 * 255 + 208 + (unit / interval - 1) % 8;
             if (bits.source.twoAt(bits.place) != due) {
                 return false;

@@ -28,6 +28,7 @@ final class SentencesOfFaultsTest {
         heightThatIsNotTold();
         everyByteChanged();
         everyPrefix();
+        everyPrefixOfAFullObject();
         bytesAreTakenAndNoPictureIsThere();
         CHECK.end();
     }
@@ -43,6 +44,32 @@ final class SentencesOfFaultsTest {
     /** 37 bytes: a frame at 2, a scan at 15, data at 25. */
     private static Stream small() {
         return Stream.begin().frame(192, 16, 8).scan(1, 0, 63, 0, 0).put(4, 160, 44, 141, 120, 8, 192, 0, 216, 7).end();
+    }
+
+    /** A picture with each kind of marker; into parts come where each begins and ends. */
+    private static Stream allKinds(Stream stream, List<int[]> parts) {
+        parts.add(part(stream, () -> stream.segment(219, 67).table(0, -1)));
+        parts.add(part(stream, () -> stream.segment(196, 21).codes(0, 1, 1)));
+        parts.add(part(stream, () -> stream.interval(2)));
+        parts.add(part(stream, () -> stream.segment(224, 5).put(255, 217, 255)));
+        parts.add(part(stream, () -> stream.frame(192, 16, 8)));
+        parts.add(part(stream, () -> stream.scan(1, 0, 63, 0, 0)));
+        // Symbol 1 and a bit, r = 0; then 0 and r = 0: 255 is not among these bits.
+        return stream.bits(2, 2).bits(1, 1).symbol(0).bits(0, 1).symbol(0).end();
+    }
+
+    private static int[] part(Stream stream, Runnable put) {
+        int begin = stream.size();
+        put.run();
+        return new int[] {begin, stream.size()};
+    }
+
+    private static int placeWhenCut(int size, List<int[]> parts) {
+        int place = size < 2 ? 0 : size;
+        for (int[] part : parts) {
+            place = size > part[0] + 2 && size < part[1] ? part[0] + 2 : place;
+        }
+        return place;
     }
 
     /** "0 (no 255, 216)" */
@@ -344,31 +371,36 @@ final class SentencesOfFaultsTest {
         fault("217 as 216", small().change(36, 216), 36);
     }
 
-    /** A picture with each kind of marker, cut off behind each byte. */
     private static void everyPrefix() {
-        Stream stream = Stream.begin();
         List<int[]> parts = new ArrayList<>();
-        parts.add(part(stream, () -> stream.segment(219, 67).table(0, -1)));
-        parts.add(part(stream, () -> stream.segment(196, 21).codes(0, 1, 1)));
-        parts.add(part(stream, () -> stream.interval(2)));
-        parts.add(part(stream, () -> stream.segment(224, 5).put(255, 217, 255)));
-        parts.add(part(stream, () -> stream.frame(192, 16, 8)));
-        parts.add(part(stream, () -> stream.scan(1, 0, 63, 0, 0)));
-        stream.bits(0, 1).symbol(0).bits(0, 1).symbol(0).end();
+        Stream stream = allKinds(Stream.begin(), parts);
         good("whole", stream, 8);
         for (int size = 0; size < stream.size(); size++) {
-            int place = size < 2 ? 0 : size;
-            for (int[] part : parts) {
-                place = size > part[0] + 2 && size < part[1] ? part[0] + 2 : place;
-            }
-            fault("the first " + size, stream.prefix(size), place);
+            fault("the first " + size, stream.prefix(size), placeWhenCut(size, parts));
         }
     }
 
-    private static int[] part(Stream stream, Runnable put) {
-        int begin = stream.size();
-        put.run();
-        return new int[] {begin, stream.size()};
+    /** The same where bytes that are passed come before, so many that the 2,000th is the last one. */
+    private static void everyPrefixOfAFullObject() {
+        int whole = allKinds(Stream.begin(), new ArrayList<>()).size();
+        for (int size = 2; size <= whole; size++) {
+            List<int[]> parts = new ArrayList<>();
+            int before = 2000 - size;
+            Stream stream = Stream.begin().segment(224, before - 2).put(new int[before - 4]);
+            allKinds(stream, parts);
+            if (size < whole) {
+                fault("the first 2,000 of " + stream.size(), stream.prefix(2000), placeWhenCut(2000, parts));
+            } else {
+                good("all 2,000", stream, 8);
+            }
+        }
+        for (int last = 0; last < 256; last++) {
+            Stream data = Stream.begin().frame(192, 64, 64).scan(1, 0, 63, 0, 0);
+            while (data.size() < 1999) {
+                data.put(data.size() % 2 == 1 ? 8 : 200);
+            }
+            fault("data to the last byte, " + last, data.put(last), 2000);
+        }
     }
 
     /** "The bytes are taken (also with a FAULT) .. and there is no picture." */

@@ -11,6 +11,8 @@ final class SentencesOfMarkersTest {
         tablesHoldForThisReading();
         samplesAreByTheTablesAtTheEnd();
         codesHoldForThisReading();
+        allCodesAtOnce();
+        symbolsBeginAnew();
         oneSymbolMoreThanOnce();
         theIntervalIsAtFirst0();
         heightIsToldAnywhereBehind();
@@ -144,6 +146,53 @@ final class SentencesOfMarkersTest {
         last.read();
         CHECK.same("254 is a code: s is too much", last.coefficient(0, 0), 1);
         CHECK.same("damaged", last.told(0, 3), 1);
+    }
+
+    /** "CODES 0 .. 3 of two classes": all eight are told, each with symbols of its own, and bands use them crosswise. */
+    private static void allCodesAtOnce() {
+        for (int one = 0; one < 4; one++) {
+            for (int two = 0; two < 4; two++) {
+                Stream stream = Stream.begin();
+                for (int i = 0; i < 8; i++) {
+                    stream.segment(196, 21).put(16 * (i / 4) + i % 4, 0, 0, 0, 0, 0, 0, 0, 2, 0, 0, 0, 0, 0, 0, 0, 0);
+                    stream.put(i < 4 ? 1 + i : 0x11 + i, 0);
+                }
+                stream.frameOfThree(192, 8, 8, 17, 17, 17).scanOfThree(0, 63, 0, 0);
+                int[] numbers = {16 * one + two, 16 * two + one, 17 * one};
+                for (int i = 0; i < 3; i++) {
+                    stream.change(stream.size() - 8 + 2 * i, numbers[i]);
+                }
+                for (int number : numbers) {
+                    int first = 1 + number / 16;
+                    int other = 5 + number % 16;
+                    stream.bits(0, 8).bits((1 << first) - 1, first).bits(0, 8).bits((1 << other) - 1, other).bits(1, 8);
+                }
+                DctFilter x = stream.end().given();
+                CHECK.same("read", x.read(), 8);
+                CHECK.same("whole", x.told(-1, 5), 0);
+                for (int i = 0; i < 3; i++) {
+                    CHECK.same("first of band " + i, x.coefficient(i, 0), (2 << numbers[i] / 16) - 1);
+                    CHECK.same("another of band " + i, x.coefficient(i, 2), (32 << numbers[i] % 16) - 1);
+                }
+            }
+        }
+    }
+
+    private static void symbolsBeginAnew() {
+        DctFilter x = new DctFilter();
+        Stream told = Stream.begin().segment(196, 19 + 255);
+        told.put(0, 0, 0, 0, 0, 0, 0, 0, 255, 0, 0, 0, 0, 0, 0, 0, 0);
+        for (int i = 0; i < 255; i++) {
+            told.put(255 - i);
+        }
+        told.segment(196, 19 + 1).codes(16, 1).change(told.size() - 1, 9).put(255, 217).giveTo(x);
+        CHECK.same("read", x.read(), 0);
+        for (int s = 0; s <= 11; s++) {
+            Stream.begin().frame(192, 8, 8).scan(1, 0, 63, 0, 0).flat(1 << s >> 1).end().giveTo(x);
+            CHECK.same("read", x.read(), 8);
+            CHECK.same("first", x.coefficient(0, 0), 1 << s >> 1);
+            CHECK.same("whole", x.told(-1, 5), 0);
+        }
     }
 
     /** "symbols (256 at most, also one more than once)" */

@@ -39,10 +39,18 @@ final class WritingAgainstModelTest {
         int[] lowest = new int[64];
         Arrays.fill(lowest, -1);
         int tries = below(3) == 0 ? 0 : 1 + below(16);
+        int[] ends = {0, 1, 2 + below(10), 63};
+        boolean inOrder = below(2) == 0;
+        int highest = below(4);
         for (int i = 0; i < tries; i++) {
             int from = below(3) == 0 ? 0 : below(2) == 0 ? 1 : 1 + below(63);
             int to = from == 0 ? 0 : from == 1 ? 63 : from + below(64 - from);
             int bit = below(3) == 0 ? below(4) : Math.max(0, 3 - i / 3);
+            if (inOrder) {
+                from = i % 4 == 0 ? 0 : ends[i % 4 - 1] + 1;
+                to = ends[i % 4];
+                bit = highest - i / 4;
+            }
             int answer = filter.scan(from, to, bit);
             if (answer > 0) {
                 CHECK.same("scan", answer, told.size() + 1);
