@@ -168,6 +168,13 @@ final class SentencesOfCallsTest {
                 CHECK.same("then " + from + " " + to, y.scan(from, to, 0), first || others ? 2 : 0);
             }
         }
+        DctFilter all = new DctFilter();
+        all.scan(0, 0, 1);
+        all.scan(1, 63, 1);
+        for (int to = 1; to <= 63; to++) {
+            CHECK.same("0 to " + to + ", though all have the bit one above", all.scan(0, to, 0), 0);
+        }
+        CHECK.same("1 to 63", all.scan(1, 63, 0), 3);
         for (int far : FAR) {
             DctFilter x = new DctFilter();
             x.scan(0, 0, 0);
