@@ -216,6 +216,15 @@ public final class DctFilter {
             int lower = byteAt(place + 1);
             return higher < 0 || lower < 0 ? -1 : 256 * higher + lower;
         }
+
+        /** Where the m of a marker that begins at a place is: behind all its bytes 255; the size when bytes end. */
+        int markerAt(int from) {
+            int place = from;
+            while (place < size && byteAt(place) == 255) {
+                place++;
+            }
+            return place;
+        }
     }
 
     /** A band of the picture, and what the scan that is read needs of it. */
@@ -513,10 +522,7 @@ public final class DctFilter {
             if (source.byteAt(place) != 255) {
                 return place;
             }
-            int m = place;
-            while (m < source.size && source.byteAt(m) == 255) {
-                m++;
-            }
+            int m = source.markerAt(place);
             if (m >= source.size) {
                 return source.size;
             }
@@ -825,11 +831,12 @@ public final class DctFilter {
             if (interval < 1 || unit == markedUnit || unit % interval != 0) {
                 return true;
             }
-            int due = 256 * 255 + 208 + (unit / interval - 1) % 8;
-            if (bits.source.twoAt(bits.place) != due) {
+            int due = 208 + (unit / interval - 1) % 8;
+            int m = bits.source.markerAt(bits.place);
+            if (m == bits.place || bits.source.byteAt(m) != due) {
                 return false;
             }
-            bits.beginAt(bits.place + 2);
+            bits.beginAt(m + 1);
             beginInterval();
             return true;
         }

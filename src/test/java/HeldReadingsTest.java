@@ -1,4 +1,7 @@
-/** Where the document's words leave room: what is held for right, with the sentences that were read beside each other. */
+/**
+ * Where two half sentences of the document could be meant: the case, the half sentences, the one whose words fit it,
+ * and what is due then.
+ */
 final class HeldReadingsTest {
     private static final Check CHECK = new Check();
 
@@ -8,7 +11,7 @@ final class HeldReadingsTest {
         oneByteOfALength();
         oneByte255();
         sixteenPassedBeyondTheLast();
-        aRestartMarkerAtOnce();
+        aRestartMarkerAsAnyMarker();
         twoBytes255BehindDamage();
         theBitOfAnInt();
         earlierScansStay();
@@ -31,15 +34,23 @@ final class HeldReadingsTest {
         return x;
     }
 
-    /** "how many bands (1 or 3)" and "the byte that is wrong": 0 or 2 is wrong itself, whatever length goes with it. */
+    /**
+     * "a length that is .. not what it must be: its own", or "of a frame and scan: the byte that is wrong"? What a
+     * frame's length must be is said by "how many bands (1 or 3)"; a number that is neither says nothing of a length,
+     * but is wrong itself, whatever length goes with it. Of a scan ("1, or all") likewise.
+     */
     private static void aWrongNumberOfBandsIsThatByte() {
         for (int count = 0; count < 256; count++) {
             if (count != 1 && count != 3) {
                 CHECK.same("frame " + count, Stream.begin().frame(192, 8, 8).change(11, count).end().answer(), -1 - 11);
                 Stream three = Stream.begin().frameOfThree(194, 8, 8, 17, 17, 17).change(11, count).end();
                 CHECK.same("frame of three " + count, three.answer(), -1 - 11);
+                Stream fitting = Stream.begin().segment(192, 8 + 3 * count).put(8, 0, 8, 0, 8, count).put(new int[3 * count]).end();
+                CHECK.same("frame and length of " + count, fitting.answer(), -1 - 11);
                 Stream scan = Stream.begin().frameOfThree(192, 8, 8, 17, 17, 17).scanOfThree(0, 63, 0, 0).change(25, count).end();
                 CHECK.same("scan " + count, scan.answer(), -1 - 25);
+                Stream other = Stream.begin().frameOfThree(192, 8, 8, 17, 17, 17).segment(218, 6 + 2 * count).put(count).put(new int[3 + 2 * count]).end();
+                CHECK.same("scan and length of " + count, other.answer(), -1 - 25);
             }
             if (count != 1) {
                 CHECK.same("scan of one " + count, Stream.begin().frame(192, 8, 8).scan(1, 0, 63, 0, 0).change(19, count).end().answer(), -1 - 19);
@@ -47,7 +58,7 @@ final class HeldReadingsTest {
         }
     }
 
-    /** "not what it must be: its own": a number that may be tells what the length must be. */
+    /** The same half sentences: a number that may be says what the length must be, so that "its own" fits. */
     private static void aLengthThatDoesNotFitAPossibleNumber() {
         CHECK.same("three, and length 11", Stream.begin().frame(192, 8, 8).change(11, 3).end().answer(), -1 - 4);
         Stream one = Stream.begin().frameOfThree(192, 8, 8, 17, 17, 17).change(11, 1).end();
@@ -58,7 +69,11 @@ final class HeldReadingsTest {
         CHECK.same("a scan of three, and length 8", other.answer(), -1 - 23);
     }
 
-    /** "a length that is .. beyond the bytes .. : its own": also one of which a byte is there. */
+    /**
+     * "of a length that is below 2, or beyond the bytes .. : its own", or "the size, when bytes end"? A length counts
+     * its own two bytes ("with these"): where one byte is left it is below 2 or beyond the bytes, whatever the other
+     * one would be. The size is the place "of what can't be there", a byte 255 or m.
+     */
     private static void oneByteOfALength() {
         for (int b : new int[] {0, 1, 255}) {
             CHECK.same("a byte " + b, Stream.begin().put(255, 224, b).answer(), -1 - 4);
@@ -66,12 +81,12 @@ final class HeldReadingsTest {
         }
     }
 
-    /** "0 (no 255, 216)": a byte 255 alone is no 255, 216. */
+    /** "0 (no 255, 216)", or "the size, when bytes end"? A byte 255 alone is no 255, 216. */
     private static void oneByte255() {
         CHECK.same("255", new Stream().put(255).answer(), -1);
     }
 
-    /** "240: sixteen are passed" and "a coefficient beyond the last one is told": what is passed is not told. */
+    /** "240: sixteen are passed", or "a coefficient beyond the last one is told"? What is passed is not told. */
     private static void sixteenPassedBeyondTheLast() {
         read(whole(2, 0).put(0, 240, 240, 240, 240, 0, 0), 0);
         read(whole(2, 0).put(0, 240, 240, 240, 0xc8, 200, 240, 0, 0), 0);
@@ -80,20 +95,31 @@ final class HeldReadingsTest {
         read(Stream.begin().frame(194, 8, 8).scan(1, 1, 1, 0, 1).put(8, 200).scan(1, 1, 1, 1, 0).symbol(240).bits(1, 1).fill(), 0);
     }
 
-    /** "the rest of the byte is passed, and a marker 208 + k must be there": there, with no byte before it. */
-    private static void aRestartMarkerAtOnce() {
+    /**
+     * "a marker 208 + k must be there", and "MARKERS: a byte 255, more of them, a byte m" says what a marker is: more
+     * bytes 255 may stand in it, as in any other, but no other byte before it.
+     */
+    private static void aRestartMarkerAsAnyMarker() {
         read(whole(2, 1).put(0, 0, 255, 208, 0, 0), 0);
-        read(whole(2, 1).put(0, 0, 255, 255, 208, 255, 1), 1);
+        read(whole(2, 1).put(0, 0, 255, 255, 208, 0, 0), 0);
+        read(whole(2, 1).put(0, 0, 255, 255, 255, 255, 208, 0, 0), 0);
+        read(whole(2, 1).put(0, 0, 7, 255, 208, 0, 0), 1);
+        read(whole(2, 1).put(0, 0, 255, 0, 255, 208, 0, 0), 1);
+        read(whole(2, 1).put(0, 0, 255, 255, 209, 255, 1), 1);
     }
 
-    /** "a byte 255 with another byte above 0 comes first" and "followed by neither 0 nor 208 .. 215": 255 is such a byte. */
+    /**
+     * "the first byte 255 from there on, followed by 208 .. 215", or "a byte 255 with another byte above 0 comes
+     * first"? Behind damage not markers are looked for, but bytes: of 255, 255, 208 the first 255 comes first, and 255
+     * behind it is another byte above 0. So too "followed by neither 0 nor 208 .. 215" behind the scan.
+     */
     private static void twoBytes255BehindDamage() {
         DctFilter x = read(whole(3, 1).put(255, 0, 255, 255, 208).put(255, 254, 0, 2), 3);
         CHECK.same("scans", x.told(-1, 4), 1);
         CHECK.same("markers go on there: 208 is alone", whole(3, 1).put(255, 0, 255, 255, 208, 7).put(255, 217).answer(), -1 - 36);
     }
 
-    /** "it grows by 2^low away from 0, if it has not that bit" and "COEFFICIENTS .. ints": the bit of the int. */
+    /** "if it has not that bit": it is the coefficient, and "COEFFICIENTS .. ints" have bits below 0 too; their size is not named. */
     private static void theBitOfAnInt() {
         int[][] cases = {{1, 3}, {2, 2}, {3, 3}, {4, 6}, {5, 7}, {6, 6}, {-1, -1}, {-2, -2}, {-3, -5}, {-4, -6}, {-5, -5}, {-6, -6}, {-7, -9}};
         for (int[] one : cases) {
@@ -129,7 +155,11 @@ final class HeldReadingsTest {
         CHECK.same("unit 5", x.coefficient(5, 0), 202);
     }
 
-    /** "for each its name (in the order of the frame)": of all bands the first name must be the frame's first. */
+    /**
+     * "how many bands (1, or all), for each its name (in the order of the frame)": of all bands the first one's name
+     * is the frame's first. "The byte that is wrong" is the first name that is another one than the frame has there,
+     * not the one at which the order turns.
+     */
     private static void namesInTheOrderOfTheFrame() {
         Stream stream = Stream.begin().frameOfThree(192, 8, 8, 17, 17, 17).scanOfThree(0, 63, 0, 0).put(0, 0, 0, 0, 0, 0).put(255, 217);
         CHECK.same("in order", stream.answer(), 8);

@@ -132,7 +132,7 @@ final class ModelReader {
                 frameAt(p, length, m);
             } else if (m == 218) {
                 scanAt(p, length);
-                behind = behindScan(behind);
+                behind = behindScan(data.end);
             }
             p = behind;
         }
@@ -321,10 +321,14 @@ final class ModelReader {
             try {
                 if (interval > 0 && u % interval == 0 && u != found) {
                     boolean atEnd = data.bits.length() - data.at < 8;
-                    if (!atEnd || data.marker != 208 + (u / interval - 1) % 8) {
+                    int m = data.end;
+                    while (at(m) == 255) {
+                        m++;
+                    }
+                    if (!atEnd || at(m) != 208 + (u / interval - 1) % 8) {
                         throw new Damage();
                     }
-                    begin(data.end + 2);
+                    begin(m + 1);
                 }
                 for (int[] block : units.get(u)) {
                     readBlock(bands.get(block[0]), coefficients[block[1]]);

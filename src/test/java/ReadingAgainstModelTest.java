@@ -126,7 +126,7 @@ final class ReadingAgainstModelTest {
             for (int j = 0; j < count; j++) {
                 stream.bits(oneOf(below(256), below(256), 0, 1), 8);
                 if (below(20) == 0) {
-                    stream.restart(below(5) == 0 ? below(8) : j / 20 % 8);
+                    stream.restart(below(5) == 0 ? below(8) : j / 20 % 8, oneOf(0, 0, 0, 1));
                 }
             }
             stream.fill();
@@ -196,7 +196,7 @@ final class ReadingAgainstModelTest {
         int units = (width + 8 * h - 1) / (8 * h) * ((height + 8 * v - 1) / (8 * v));
         for (int i = 0; i < units; i++) {
             if (interval > 0 && i > 0 && i % interval == 0) {
-                stream.restart((i / interval - 1) % 8);
+                stream.restart((i / interval - 1) % 8, oneOf(0, 0, 0, 1, 2));
             }
             for (int j = 0; j < blocks; j++) {
                 stream.value(0, below(2001) - 1000);

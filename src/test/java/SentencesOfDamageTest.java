@@ -162,7 +162,13 @@ final class SentencesOfDamageTest {
         read("another with a length", whole(2, 1).put(8, 200, 0, 255, 224, 0, 4, 255, 208), "01");
         read("a byte before it", whole(2, 1).put(8, 200, 0, 0, 255, 208, 8, 9, 0), "01");
         read("255, 0 before it", whole(2, 1).put(8, 200, 0, 255, 0, 255, 208, 8, 9, 0), "01");
+        read("no 255 before it", whole(2, 1).put(8, 200, 0, 208, 8, 9, 0), "01");
         read("the end", whole(2, 1).put(8, 200, 0), "01");
+        for (int more = 1; more <= 3; more++) {
+            read("more bytes 255", whole(2, 1).put(8, 200, 0).restart(0, more).put(8, 9, 0), "00");
+            read("more bytes 255 and another number", whole(2, 1).put(8, 200, 0).restart(1, more), "01");
+        }
+        read("more bytes 255 and another marker", whole(2, 1).put(8, 200, 0, 255, 255, 1), "01");
         DctFilter x = read("the unit before is whole", whole(3, 2).put(8, 200, 0, 8, 9, 0, 8, 9, 0), "001");
         row("the unit before is whole", x, 0, 200);
         row("the unit is not read", x, 2, 0);

@@ -8,6 +8,7 @@ final class SentencesOfDataTest {
         intervalsOnlyIfThereAreMore();
         theRestOfTheByteIsPassed();
         markersAreNumberedModulo8();
+        markersMayHaveMoreBytes255();
         firstDifferencesBeginAnew();
         sBits();
         sOfFirstCoefficients();
@@ -117,6 +118,20 @@ final class SentencesOfDataTest {
         for (int i = 0; i < 24; i++) {
             CHECK.same("first of " + i, x.coefficient(i, 0), i);
         }
+    }
+
+    /** "MARKERS: a byte 255, more of them, a byte m.": so is one of an interval. */
+    private static void markersMayHaveMoreBytes255() {
+        for (int more = 0; more <= 20; more++) {
+            Stream stream = whole(4, 1).flat(5).restart(0, more).flat(6).restart(1, 20 - more).flat(7).restart(2).flat(8);
+            first(more + " more", read(more + " more", stream, 0), 5, 6, 7, 8);
+            read(more + " more behind the last unit", whole(1, 1).flat(5).restart(0, more), 0);
+        }
+        Stream three = Stream.begin().interval(1).frameOfThree(194, 16, 8, 17, 17, 17).scanOfThree(0, 0, 0, 0);
+        three.value(0, 1).value(0, 2).value(0, 3).restart(0, 3).value(0, 4).value(0, 5).value(0, 6);
+        first("three bands", read("three bands", three, 0), 1, 4, 2, 5, 3, 6);
+        Stream refined = row(194, 2, 1).scan(1, 0, 0, 1, 0).bits(1, 1).restart(0, 2).bits(1, 1);
+        first("by and by", read("by and by", refined, 0), 1, 1);
     }
 
     /** "First differences begin anew then (at 0)." Those of each band, and in each scan. */

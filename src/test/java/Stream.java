@@ -133,7 +133,16 @@ final class Stream {
     }
 
     Stream restart(int number) {
-        return fill().put(255, 208 + number);
+        return restart(number, 0);
+    }
+
+    /** A marker may have more bytes 255. */
+    Stream restart(int number, int more) {
+        fill();
+        for (int i = 0; i < more; i++) {
+            put(255);
+        }
+        return put(255, 208 + number);
     }
 
     Stream end() {
